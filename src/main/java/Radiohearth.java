@@ -590,10 +590,9 @@ public final class Radiohearth {
         }
     }
 
-    /** The code with two bits of memory, and its best path; a state is the bit ahead times 2 plus the one ahead of it. */
+    /** The code and its best path; a state is the bit ahead times 2, plus the bit two ahead. */
     private static final class Trellis {
         private final int[] best = new int[4 * (WORD_BITS + TAIL_BITS + 1)];
-        private int bestSum;
 
         static int firstOut(int state, int bit) {
             return (bit ^ (state >> 1) ^ state) & 1;
@@ -637,16 +636,31 @@ public final class Radiohearth {
             return sum;
         }
 
-        int lastSum() {
-            return bestSum;
+        /** Sums are found from behind, so that the way forward can take 0 wherever both bits are as good. */
+        void weigh(int[] weights, int length) {
+            Arrays.fill(best, 0);
+            if (length > WORD_BITS) {
+                return;
+            }
+            for (int i = length + TAIL_BITS - 1; i >= 0; i--) {
+                for (int state = 0; state < 4; state++) {
+                    int sum = through(weights, i, state, 0);
+                    int other = i < length ? through(weights, i, state, 1) : sum;
+                    int at = 4 * i + state;
+                    if (at >= 0 && at < best.length) {
+                        best[at] = Math.max(sum, other);
+                    }
+                }
+            }
         }
 
-        /** Sums are found from behind, so that the way forward can take 0 wherever both bits are as good. */
+        /** The greatest sum of the weights that were weighed last. */
+        int bestSum() {
+            return best[0];
+        }
+
+        /** The word of the weights that were weighed last. */
         long bestWord(int[] weights, int length) {
-            if (length < 0 || length > WORD_BITS || weights.length < 2 * (length + TAIL_BITS)) {
-                return 0L;
-            }
-            fillFromBehind(weights, length);
             long word = 0L;
             int state = 0;
             for (int i = 0; i < length; i++) {
@@ -654,22 +668,7 @@ public final class Radiohearth {
                 word = word << 1 | bit;
                 state = nextState(state, bit);
             }
-            bestSum = best[0];
             return word;
-        }
-
-        private void fillFromBehind(int[] weights, int length) {
-            Arrays.fill(best, 0);
-            for (int i = length + TAIL_BITS - 1; i >= 0; i--) {
-                for (int state = 0; state < 4; state++) {
-                    int sum = through(weights, i, state, 0);
-                    int other = i < length ? through(weights, i, state, 1) : sum;
-                    int at = 4 * i + state;
-                    if (at >= 0 && at < best.length) {
-                        best[at] = other > sum ? other : sum;
-                    }
-                }
-            }
         }
 
         private int through(int[] weights, int index, int state, int bit) {
@@ -729,6 +728,7 @@ public final class Radiohearth {
 
         void understand(Ear ear) {
             putIntoRows(ear.samples);
+            trellis.weigh(weights, WORD_BITS);
             long heardWord = trellis.bestWord(weights, WORD_BITS);
             long bits = whitened(heardWord);
             int frame = (int) (bits >> CHECK_BITS);
@@ -1146,6 +1146,7 @@ public final class Radiohearth {
 
         int numberByPath() {
             int coded = codedLength();
+            trellis.weigh(weights, coded);
             return (1 << coded) + (int) trellis.bestWord(weights, coded);
         }
 
@@ -1164,8 +1165,8 @@ public final class Radiohearth {
         }
 
         long greatestSum() {
-            trellis.bestWord(weights, codedLength());
-            return trellis.lastSum();
+            trellis.weigh(weights, codedLength());
+            return trellis.bestSum();
         }
 
         boolean isDecodedAlike() {

@@ -29,7 +29,7 @@ public final class ModelTests {
             }
         }
         System.out.println(seen);
-        System.out.println(wrong == 0 ? "model: all answers are as due" : "model: " + wrong + " answers are not as due");
+        System.out.println("model: " + (wrong == 0 ? "all answers are as due" : wrong + " answers are not as due"));
         if (wrong != 0) {
             System.exit(1);
         }
@@ -71,7 +71,8 @@ public final class ModelTests {
             if (!a.equals(b)) {
                 wrong++;
                 if (wrong < 40) {
-                    System.out.println("run " + number + ", call " + calls + ": " + call + " answered " + a + ", due is " + b);
+                    System.out.println("run " + number + ", call " + calls + ": " + call + " answered " + a
+                            + ", due is " + b);
                 }
             }
         }
@@ -110,8 +111,7 @@ public final class ModelTests {
                 int v = from(-1, 256);
                 same("send", () -> x.send(s, g, v), () -> m.send(s, g, v));
             } else if (turn < 40) {
-                int left = 600 - m.slots;
-                int k = left <= 20 && dice.nextBoolean() ? left : dice.nextInt(12) == 0 ? from(0, 21) : kind == 5 ? from(12, 20) : from(1, 5);
+                int k = slotsToPass(kind);
                 same("slot " + k, () -> x.slot(k), () -> m.slot(k));
                 lookAtAll();
             } else if (turn < 42) {
@@ -138,6 +138,17 @@ public final class ModelTests {
             } else {
                 look(a);
             }
+        }
+
+        int slotsToPass(int kind) {
+            int left = 600 - m.slots;
+            if (left <= 20 && dice.nextBoolean()) {
+                return left;
+            }
+            if (dice.nextInt(12) == 0) {
+                return from(0, 21);
+            }
+            return kind == 5 ? from(12, 20) : from(1, 5);
         }
 
         void look(int a) {

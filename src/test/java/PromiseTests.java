@@ -37,7 +37,8 @@ public final class PromiseTests {
         decoding();
         figures();
         nothingChanges();
-        System.out.println(wrong == 0 ? "promises: all answers are as due" : "promises: " + wrong + " answers are not as due");
+        farNumbers();
+        System.out.println("promises: " + (wrong == 0 ? "all answers are as due" : wrong + " answers are not as due"));
         if (wrong != 0) {
             System.exit(1);
         }
@@ -765,6 +766,41 @@ public final class PromiseTests {
         due("slots", x.slot(1), 1);
         due("gain", x.gain(0, 1), 11);
         due("sample", x.sample(1, 0), -22);
+    }
+
+    private static void farNumbers() {
+        part = "far numbers";
+        Radiohearth x = at(0, 5);
+        x.code();
+        for (int far : new int[] {Integer.MIN_VALUE, Integer.MIN_VALUE + 1, -100, 1000, Integer.MAX_VALUE}) {
+            dueThrow("addStation", BAD, () -> x.addStation(far, 1, 1));
+            dueThrow("addStation", BAD, () -> x.addStation(1, far, 1));
+            dueThrow("addStation", BAD, () -> x.addStation(1, 1, far));
+            dueThrow("move", OUT, () -> x.move(far, far));
+            dueThrow("move", BAD, () -> x.move(0, far));
+            dueThrow("setPower", OUT, () -> x.setPower(far, far));
+            dueThrow("setPower", BAD, () -> x.setPower(0, far));
+            dueThrow("setNoise", BAD, () -> x.setNoise(far));
+            dueThrow("setEcho", BAD, () -> x.setEcho(far));
+            dueThrow("gain", OUT, () -> x.gain(far, 0));
+            dueThrow("gain", OUT, () -> x.gain(0, far));
+            dueThrow("send", OUT, () -> x.send(far, far, far));
+            dueThrow("send", OUT, () -> x.send(0, far, far));
+            dueThrow("send", BAD, () -> x.send(0, 1, far));
+            dueThrow("slot", BAD, () -> x.slot(far));
+            dueThrow("arrivalAt", NONE, () -> x.arrivalAt(0, far));
+            dueThrow("wayOver", OUT, () -> x.wayOver(far, far));
+            dueThrow("wayOver", OUT, () -> x.wayOver(0, far));
+            dueThrow("wayHops", OUT, () -> x.wayHops(far, far));
+            dueThrow("wayHops", OUT, () -> x.wayHops(0, far));
+            dueThrow("hopsByFlood", OUT, () -> x.hopsByFlood(far, far));
+            dueThrow("hopsByFlood", OUT, () -> x.hopsByFlood(0, far));
+            dueThrow("sample", NONE, () -> x.sample(0, far));
+            dueThrow("weight", OUT, () -> x.weight(far));
+            dueThrow("setWeight", OUT, () -> x.setWeight(far, far));
+            dueThrow("setWeight", BAD, () -> x.setWeight(0, far));
+        }
+        noSuchStation(x);
     }
 
     /** The samples of a frame for a speaker of power 1, as '+' and '-', in the order in which they are sent. */
