@@ -25,9 +25,20 @@ final class Due {
         }
     }
 
-    /** The exception must be of that very class. */
+    /** The exception must be of that very class, and thrown by the program itself, not by the machine or a list. */
     static void thrown(String call, Class<?> want, Supplier<Object> run) {
-        is(call, answerOf(run), want);
+        Object got;
+        try {
+            got = run.get();
+        } catch (RuntimeException e) {
+            got = isOfTheProgram(e) ? e.getClass() : "by itself " + e;
+        }
+        is(call, got, want);
+    }
+
+    private static boolean isOfTheProgram(RuntimeException e) {
+        StackTraceElement[] trace = e.getStackTrace();
+        return trace.length > 0 && trace[0].getClassName().startsWith("Radiohearth");
     }
 
     /** What a call returns, or the class of the exception that it throws. */

@@ -613,23 +613,45 @@ public final class EdgeTests {
         state = () -> Frames.friends(0, 5, FAR_PLACE);
         taken("none", 0, x -> x.mended(0));
         taken("the frame", Frames.frame(Frames.ANSWER, 1, 0, 0, 1, 0, 0), x -> x.frame(0));
-        int most = 0;
-        for (int level = 5; level < 40; level++) {
-            Radiohearth x = Frames.at(0, 10);
+        mendedInNoise();
+        mendedUnderALouderOne();
+    }
+
+    private static void mendedInNoise() {
+        Due.by("mended: how many samples of this frame .. had another sign than the coded frame tells");
+        String sent = Frames.spread(Frames.wish(0, 0, 1, 0, 0));
+        boolean firstUnlike = false;
+        boolean lastUnlike = false;
+        for (int level = 5; level < 60; level++) {
+            Radiohearth x = Frames.at(0, 4);
             x.setNoise(level);
             x.send(0, 1, 1);
             x.slot(1);
             if (x.heard(1) == 'u') {
-                String sent = Frames.spread(Frames.wish(0, 0, 1, 0, 0));
                 int unlike = 0;
                 for (int i = 0; i < 88; i++) {
                     unlike += x.sample(1, i) * Frames.sign(sent, i) < 0 ? 1 : 0;
                 }
                 Due.is("mended at level " + level, x.mended(1), unlike);
-                most = Math.max(most, unlike);
+                firstUnlike |= x.sample(1, 0) * Frames.sign(sent, 0) < 0;
+                lastUnlike |= x.sample(1, 87) * Frames.sign(sent, 87) < 0;
             }
         }
-        Due.is("many", most > 9, true);
+        Due.is("the first and the last one, too", firstUnlike && lastUnlike, true);
+    }
+
+    // The signs are those of the louder one, whoever of them has the greater number.
+    private static void mendedUnderALouderOne() {
+        for (int louder = 0; louder < 2; louder++) {
+            Radiohearth x = Frames.at(0, 0, 0);
+            x.setPower(louder, 3);
+            x.setPower(1 - louder, 1);
+            x.send(0, 2, 1);
+            x.send(1, 2, 1);
+            x.slot(1);
+            Due.is("the louder one", x.frame(2), Frames.wish(louder, louder, 2, 0, 0));
+            Due.is("none is mended", x.mended(2), 0);
+        }
     }
 
     private static Radiohearth inNoise() {

@@ -45,9 +45,12 @@ public final class NetTests {
         numberOfTheWish();
         waitIfTheWaitIsNone();
         endOfTheQueueOfARelay();
+        wayAtTheEndOfTheQueue();
+        dataKeepTheirValue();
         valueGrowsByOne();
         triesAndWaits();
         fiveTries();
+        noNumberIsDrawnAtFiveTries();
         waysOverThatOneAreGone();
         triesAreNoneBehindAnAnswer();
         wishesNeedNoAnswer();
@@ -787,6 +790,32 @@ public final class NetTests {
         Due.is("in this order", x.arrivalAt(2, 1) * 100 + x.arrivalAt(2, 2), 5060);
     }
 
+    // In slot 6, the relay takes a wish of 3, in slot 7 a way for 0; the wish goes on ahead of the way.
+    private static void wayAtTheEndOfTheQueue() {
+        Due.by("the way goes to the end of its queue");
+        Radiohearth x = Frames.at(0, 12, 24, 36, FAR);
+        x.send(0, 2, 1);
+        x.slot(2);
+        x.send(3, 4, 1);
+        x.slot(4);
+        Due.is("a wish of 3 at the relay", x.frame(1), Frames.wish(2, 3, 4, 0, 1));
+        x.slot(1);
+        Due.is("then a way of 2", x.frame(1), Frames.frame(Frames.WAY, 2, 1, 2, 0, 0, 0));
+        Due.is("both", x.queue(1), 2);
+        x.slot(3);
+        Due.is("the wish goes first", x.frame(0), Frames.wish(1, 3, 4, 0, 2));
+        Due.is("the way stays", x.queue(1), 1);
+    }
+
+    private static void dataKeepTheirValue() {
+        Due.by("data .. otherwise go to the end of its queue");
+        Radiohearth x = row();
+        x.send(0, 2, 255);
+        x.slot(3);
+        Due.is("as they were, but from whom and to whom", x.frame(2), Frames.frame(Frames.DATA, 1, 2, 0, 2, 1, 255));
+        Due.is("arrived", x.arrivalAt(2, 1), 255);
+    }
+
     private static void valueGrowsByOne() {
         Due.by("goes to the end of its queue, with 1 more as its value");
         Radiohearth x = new Radiohearth();
@@ -855,6 +884,29 @@ public final class NetTests {
         y.slot(2);
         Due.is("answered the fifth time", y.tries(0) + "" + y.queue(0) + y.fate(1), "00a");
         Due.is("the way stands", way(y, 0, 1), 11);
+    }
+
+    // The seed 999 draws 11484, 23652, 4527, 12734 in the first tries, and 4107, 762 in the next ones.
+    private static void noNumberIsDrawnAtFiveTries() {
+        Due.by("If they are 5, ..; otherwise, its wait becomes its random number");
+        Radiohearth x = new Radiohearth();
+        x.addStation(0, 2, 999);
+        x.addStation(5, 2, 1);
+        x.send(0, 1, 0);
+        x.slot(5);
+        x.move(1, FAR);
+        x.send(0, 1, 1);
+        x.slot(20);
+        x.slot(11);
+        Due.is("given up", x.fate(1), 'l');
+        x.move(1, 5);
+        x.send(0, 1, 2);
+        x.slot(3);
+        x.move(1, FAR);
+        x.slot(2);
+        Due.is("the fifth number", x.tries(0) * 10 + x.waitOf(0), 11);
+        x.slot(3);
+        Due.is("the sixth number", x.tries(0) * 10 + x.waitOf(0), 22);
     }
 
     // The station 0 has ways to 1 and 2 over 1, and to 3 over 3.

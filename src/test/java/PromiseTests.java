@@ -1,3 +1,5 @@
+import java.util.function.Function;
+
 /** Each promise with ordinary inputs, edges and wrong inputs; the due answers are worked out from the document. */
 public final class PromiseTests {
     public static void main(String[] args) {
@@ -342,28 +344,44 @@ public final class PromiseTests {
     // Each frame is wished for in 3 slots, 12 apart, and given up 12 slots later; the next one from the slot behind on.
     private static void wishesAndGivingUp() {
         Due.by("promise 20, wishing");
+        int[] givenUp = {37, 74, 111, 148, 185, 198, 199, 200};
+        Object[] wishes = inEachSlot(x -> x.wishes(0));
+        Object[] deeds = inEachSlot(x -> x.heard(0));
+        Object[] queues = inEachSlot(x -> x.queue(0));
+        int made = 0;
+        int lost = 0;
+        for (int slot = 1; slot <= 201; slot++) {
+            boolean due = slot < 198 && (slot - 1) % 37 % 12 == 0 && (slot - 1) % 37 < 36;
+            made += due ? 1 : 0;
+            lost += lost < 8 && slot == givenUp[lost] ? 1 : 0;
+            Due.is("wishes in slot " + slot, wishes[slot], made);
+            Due.is("deed in slot " + slot, deeds[slot], due ? 's' : 'q');
+            Due.is("queue in slot " + slot, queues[slot], 8 - lost);
+        }
+        for (int i = 0; i < 8; i++) {
+            int message = i;
+            Object[] fates = inEachSlot(x -> x.fate(message));
+            for (int slot = 1; slot <= 201; slot++) {
+                Due.is("fate " + i + " in slot " + slot, fates[slot], slot >= givenUp[i] ? 'l' : '-');
+            }
+        }
+        Due.is("wishes in all", made, 16);
+        Due.is("spoken", inEachSlot(x -> x.spoken(0))[201], 16);
+        Due.is("share", inEachSlot(x -> x.share())[201], 0.0f);
+    }
+
+    /** One answer behind each of 201 slots, in which a station has 8 messages for one out of reach. */
+    private static Object[] inEachSlot(Function<Radiohearth, Object> call) {
         Radiohearth x = Frames.at(0, 63);
         for (int i = 0; i < 8; i++) {
             x.send(0, 1, i);
         }
-        int[] givenUp = {37, 74, 111, 148, 185, 198, 199, 200};
-        int made = 0;
+        Object[] answers = new Object[202];
         for (int slot = 1; slot <= 201; slot++) {
             x.slot(1);
-            boolean wishes = slot < 199 && (slot - 1) % 37 % 12 == 0 && (slot - 1) % 37 < 36 && slot != 198;
-            made += wishes ? 1 : 0;
-            Due.is("wishes in slot " + slot, x.wishes(0), made);
-            Due.is("deed in slot " + slot, x.heard(0), wishes ? 's' : 'q');
-            int lost = 0;
-            for (int i = 0; i < 8; i++) {
-                lost += x.fate(i) == 'l' ? 1 : 0;
-                Due.is("fate " + i + " in slot " + slot, x.fate(i), slot >= givenUp[i] ? 'l' : '-');
-            }
-            Due.is("queue in slot " + slot, x.queue(0), 8 - lost);
+            answers[slot] = call.apply(x);
         }
-        Due.is("in all", x.wishes(0), 16);
-        Due.is("spoken", x.spoken(0), 16);
-        Due.is("share", x.share(), 0.0f);
+        return answers;
     }
 
     private static void wishesCountAnew() {
