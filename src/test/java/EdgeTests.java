@@ -785,6 +785,23 @@ public final class EdgeTests {
         first.code();
         Due.is("the first one being worth most", first.decode(), 8 + 4);
         Due.is("it stays", first.decode() + first.decodeByTrying(), 24);
+        decodeShorterWords();
+    }
+
+    private static void decodeShorterWords() {
+        Due.by("of the length of the weights, in place of other weights");
+        Radiohearth x = new Radiohearth();
+        for (int length = 10; length >= 0; length--) {
+            for (int i = 0; i < length; i++) {
+                x.type('1');
+            }
+            Due.is("code", x.code(), 2 * length + 4);
+            Due.is("sum ahead of decode", x.sum(), 16L * length + 32);
+            Due.is("decode", x.decode(), (2 << length) - 1);
+            Due.is("decodeByTrying", x.decodeByTrying(), (2 << length) - 1);
+        }
+        x.setWeight(0, -99);
+        Due.is("sum right behind a new weight", x.sum(), 24L - 99L);
     }
 
     private static void share() {
