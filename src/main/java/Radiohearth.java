@@ -656,7 +656,12 @@ public final class Radiohearth {
 
         /** The greatest sum of the weights that were weighed last. */
         int bestSum() {
-            return best[0];
+            return bestAt(0, 0);
+        }
+
+        private int bestAt(int index, int state) {
+            int at = 4 * index + state;
+            return at >= 0 && at < best.length ? best[at] : 0;
         }
 
         /** The word of the weights that were weighed last. */
@@ -672,12 +677,12 @@ public final class Radiohearth {
         }
 
         private int through(int[] weights, int index, int state, int bit) {
-            int at = 4 * (index + 1) + nextState(state, bit);
-            if (index < 0 || 2 * index + 1 >= weights.length || at < 0 || at >= best.length) {
+            if (index < 0 || 2 * index + 1 >= weights.length) {
                 return 0;
             }
             return signed(weights[2 * index], firstOut(state, bit))
-                    + signed(weights[2 * index + 1], secondOut(state, bit)) + best[at];
+                    + signed(weights[2 * index + 1], secondOut(state, bit))
+                    + bestAt(index + 1, nextState(state, bit));
         }
     }
 
@@ -869,15 +874,9 @@ public final class Radiohearth {
         private void takeTurn(Station station) {
             station.ear.deed = 'q';
             wish(station);
-            if (station.owesAnswer) {
-                station.owesAnswer = false;
-                speak(station, station.answer, station.answer.to);
-            } else if (station.awaited != null) {
-                return;
-            } else if (station.pause > 0) {
-                station.pause--;
-            } else {
-                speakFirst(station);
+            Frame frame = frameOfTurn(station);
+            if (frame != null) {
+                speak(station, frame);
             }
         }
 
@@ -898,24 +897,39 @@ public final class Radiohearth {
             }
         }
 
-        private void speakFirst(Station station) {
+        /** What the station speaks in this turn, if it does. */
+        private Frame frameOfTurn(Station station) {
+            if (station.owesAnswer) {
+                station.owesAnswer = false;
+                return station.answer;
+            }
+            if (station.awaited != null) {
+                return null;
+            }
+            if (station.pause > 0) {
+                station.pause--;
+                return null;
+            }
             Frame frame = station.firstToSpeak();
-            if (frame == null) {
-                return;
+            if (frame != null) {
+                leaveOrAwait(station, frame);
             }
-            if (frame.isWish()) {
-                station.drop(frame);
-                speak(station, frame, TO_ALL);
-                return;
-            }
-            station.awaited = frame;
-            station.awaitedSlot = slots;
-            speak(station, frame, station.ways.overWhom(frame.goal));
+            return frame;
         }
 
-        private void speak(Station station, Frame frame, int to) {
+        private void leaveOrAwait(Station station, Frame frame) {
+            if (frame.isWish()) {
+                frame.to = TO_ALL;
+                station.drop(frame);
+                return;
+            }
+            frame.to = station.ways.overWhom(frame.goal);
+            station.awaited = frame;
+            station.awaitedSlot = slots;
+        }
+
+        private void speak(Station station, Frame frame) {
             frame.from = station.number;
-            frame.to = to;
             codec.speak(frame.pack(), station.power, station.voice);
             station.ear.deed = 's';
             station.spokenFrames++;
